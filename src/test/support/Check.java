@@ -5,14 +5,20 @@ import java.util.Arrays;
 /** What the tests share: counting wrong answers, and sums from a source other than KeySums. */
 final class Check {
     private static int wrong = 0;
+    private static String sentence = "";
 
     private Check() {
+    }
+
+    /** Names the document's sentence that the calls from here on are about. */
+    static void about(String text) {
+        sentence = text + ": ";
     }
 
     static void due(String call, Object got, Object want) {
         if (!got.equals(want)) {
             wrong++;
-            System.out.println(call + " answered " + got + ", due is " + want);
+            System.out.println(sentence + call + " answered " + got + ", due is " + want);
         }
     }
 
@@ -57,12 +63,16 @@ final class Check {
 
     /** Puts the bytes on the tape, which must be able to hold them rounded up to twenties. */
     static void tape(KeySums x, int before, byte[] bytes) {
-        byte[] padded = Arrays.copyOf(bytes, (bytes.length + 19) / 20 * 20);
-        for (int at = 0; at < padded.length; at += 20) {
-            due("feed", x.feed(number(padded, at), number(padded, at + 4), number(padded, at + 8),
-                    number(padded, at + 12), number(padded, at + 16)), true);
-        }
+        feeds(x, Arrays.copyOf(bytes, (bytes.length + 19) / 20 * 20));
         due("end(" + (before + bytes.length) + ")", x.end(before + bytes.length), true);
+    }
+
+    /** Feeds the bytes, a multiple of twenty, all of which must fit. */
+    static void feeds(KeySums x, byte[] bytes) {
+        for (int at = 0; at < bytes.length; at += 20) {
+            due("feed", x.feed(number(bytes, at), number(bytes, at + 4), number(bytes, at + 8),
+                    number(bytes, at + 12), number(bytes, at + 16)), true);
+        }
     }
 
     private static int number(byte[] bytes, int at) {
