@@ -19,6 +19,11 @@ public final class FaceTest {
                 "public int KeySums.key()",
                 "public int KeySums.sum(boolean)",
                 "public int KeySums.sumAt(int)"));
+        Check.due("the class above", KeySums.class.getSuperclass(), Object.class);
+        Check.due("interfaces", KeySums.class.getInterfaces().length, 0);
+        for (Class<?> inside : KeySums.class.getDeclaredClasses()) {
+            hidden(inside);
+        }
         Check.finish();
     }
 
@@ -34,6 +39,13 @@ public final class FaceTest {
             keep(members, method.getModifiers(), method.toString());
         }
         return members;
+    }
+
+    private static void hidden(Class<?> inside) {
+        int modifiers = inside.getModifiers();
+        boolean shown = Modifier.isPublic(modifiers) || Modifier.isProtected(modifiers);
+        Check.due(inside.getName() + " is shown", shown, false);
+        Check.due(inside.getName() + " is static", Modifier.isStatic(modifiers), true);
     }
 
     private static void keep(Set<String> members, int modifiers, String text) {
